@@ -592,52 +592,55 @@ public final class ClaimBus {
         int clearedTo = 0;
         int lastHeard = 0;
         int waits = 0;
-        Message whole = null;
-        private final byte[] bytes = new byte[MOST_BYTES];
+        /** The sum of each byte that came times its number from 1 on. */
+        int sum = 0;
+        boolean isAsSent = true;
+        private Message whole = null;
+        /** Only these bytes are kept: the troubles, if it tells some. */
+        private final int[] beginning = new int[2 + 4 * MOST_TROUBLES];
 
         void begin(Frame frame, int time) {
             open = true;
             source = frame.source();
             group = frame.controlGroup();
-            size = Math.min(frame.byteAt(1) | frame.byteAt(2) << 8, MOST_BYTES);
+            size = frame.byteAt(1) | frame.byteAt(2) << 8;
             packets = frame.byteAt(3);
             window = frame.byteAt(4);
             expected = 1;
             clearedTo = 0;
             lastHeard = time;
             waits = 0;
+            sum = 0;
             whole = frame.whole;
+            isAsSent = whole != null && whole.size == size && whole.group == group;
         }
 
         void takePacket(Frame frame, int time) {
             int from = (expected - 1) * PACKET_BYTES;
-            for (int i = 0; i < PACKET_BYTES; i++) {
-                if (from + i < size && from + i < bytes.length) {
-                    bytes[from + i] = (byte) frame.byteAt(i + 1);
-                }
+            for (int i = 0; i < PACKET_BYTES && from + i < size; i++) {
+                takeByte(from + i, frame.byteAt(i + 1));
             }
             expected++;
             lastHeard = time;
+        }
+
+        private void takeByte(int place, int value) {
+            sum += value * (place + 1);
+            if (whole == null || whole.byteAt(place) != value) {
+                isAsSent = false;
+            }
+            if (place >= 0 && place < beginning.length) {
+                beginning[place] = value;
+            }
         }
 
         boolean isWhole() {
             return expected > packets;
         }
 
+        /** One of the first bytes; 0 behind those that are kept. */
         int byteAt(int place) {
-            return place < 0 || place >= bytes.length ? 0 : bytes[place] & 255;
-        }
-
-        boolean isAsSent() {
-            if (whole == null || whole.size != size || whole.group != group) {
-                return false;
-            }
-            for (int i = 0; i < size; i++) {
-                if (byteAt(i) != whole.byteAt(i)) {
-                    return false;
-                }
-            }
-            return true;
+            return place < 0 || place >= beginning.length ? 0 : beginning[place];
         }
     }
 
@@ -700,12 +703,8 @@ public final class ClaimBus {
         }
 
         void takeMessage(Transport from) {
-            int sum = 0;
-            for (int i = 0; i < from.size; i++) {
-                sum += from.byteAt(i) * (i + 1);
-            }
-            enter(from.source, from.group, from.size, sum);
-            if (!from.isAsSent()) {
+            enter(from.source, from.group, from.size, from.sum);
+            if (!from.isAsSent) {
                 gotAnotherThanSent = true;
             }
             int[] list = from.group == TROUBLE_GROUP ? listOf(from.source) : null;

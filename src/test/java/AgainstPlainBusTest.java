@@ -1,0 +1,163 @@
+import java.util.Random;
+
+/** Random runs of at most 512 calls, each answer compared with that of the plain second reading. */
+public final class AgainstPlainBusTest {
+    private static final int RUNS = 400;
+    private static final int CALLS = 500;
+
+    private final Random random;
+    private final ClaimBus bus = new ClaimBus();
+    private final PlainBus plain = new PlainBus();
+    private final StringBuilder calls = new StringBuilder();
+    private final int style;
+    private int wrong = 0;
+
+    private AgainstPlainBusTest(int seed) {
+        random = new Random(seed);
+        style = seed % 4;
+    }
+
+    public static void main(String[] args) {
+        int runs = args.length > 0 ? Integer.parseInt(args[0]) : RUNS;
+        int bad = 0;
+        int[] seen = new int[4];
+        for (int seed = 0; seed < runs && bad < 3; seed++) {
+            AgainstPlainBusTest run = new AgainstPlainBusTest(seed);
+            run.run();
+            for (int i = 0; i < run.plain.nodes.size(); i++) {
+                seen[run.plain.told(i, 3)]++;
+                seen[0] += run.plain.told(i, 4);
+            }
+            if (run.wrong > 0) {
+                bad++;
+                System.out.println("seed " + seed + run.calls);
+            }
+        }
+        System.out.println(runs + " runs, " + bad + " not alike; messages " + seen[0] + ", under way " + seen[1]
+            + ", done " + seen[2] + ", failed " + seen[3]);
+        System.exit(bad == 0 ? 0 : 1);
+    }
+
+    private int any(int bound) {
+        return random.nextInt(bound);
+    }
+
+    private int oneOf(int... values) {
+        return values[any(values.length)];
+    }
+
+    private void run() {
+        int nodes = 2 + any(7);
+        for (int i = 0; i < nodes; i++) {
+            int address = oneOf(0, 10, 20, 128, 129, 130, 246, 247, any(248));
+            boolean free = any(3) > 0;
+            int window = 1 + any(16);
+            int high = oneOf(0, 0, -1, 5);
+            int low = oneOf(i, -i, random.nextInt());
+            call("node " + high + " " + low + " " + address + " " + free + " " + window,
+                bus.node(high, low, address, free, window), plain.node(high, low, address, free, window));
+            if (style != 3 || any(3) > 0) {
+                call("start " + i, number(bus.start(i)), number(plain.start(i)));
+            }
+        }
+        passSome(style == 3 ? 20 : 300);
+        for (int k = 0; k < CALLS - 40 && wrong == 0; k++) {
+            oneCall();
+            compareAll();
+        }
+    }
+
+    private static int number(boolean yes) {
+        return yes ? 1 : 0;
+    }
+
+    private void call(String what, int got, int due) {
+        calls.append("\n  ").append(what);
+        if (got != due) {
+            wrong++;
+            calls.append(" answered ").append(got).append(", due is ").append(due);
+        }
+    }
+
+    private void passSome(int milliseconds) {
+        call("pass " + milliseconds, bus.pass(milliseconds), plain.pass(milliseconds));
+    }
+
+    private void oneCall() {
+        int n = any(50) == 0 ? oneOf(-1, 8, 9, 1000) : any(plain.nodes.size());
+        int kind = any(100);
+        if (kind < 34) {
+            passSome(oneOf(1, 1, 2, 3, 5, 9, 20, 49, 50, 51, 60, 100, 249, 250, 251, 400, 749, 750, 751, 1249, 1250, 1251, 3000));
+        } else if (kind < 60) {
+            sendSome(n);
+        } else if (kind < 66) {
+            int to = any(2) == 0 ? 255 : anAddress();
+            call("request " + n + " " + to, number(bus.request(n, to)), number(plain.request(n, to)));
+        } else if (kind < 72) {
+            int frames = any(10) == 0 ? oneOf(-1, 51, 50, 20) : any(style == 1 ? 1 : 6);
+            if (style != 1) {
+                call("lose " + n + " " + frames, number(bus.lose(n, frames)), number(plain.lose(n, frames)));
+            }
+        } else if (kind < 80) {
+            int spn = oneOf(0, 1, 255, 65535, 65536, 524287, 524288, any(524288));
+            int fmi = oneOf(0, 31, 32, any(32));
+            int oc = oneOf(0, 127, 128, any(128));
+            call("trouble " + n + " " + spn + " " + fmi + " " + oc, bus.trouble(n, spn, fmi, oc), plain.trouble(n, spn, fmi, oc));
+        } else if (kind < 88) {
+            call("tell " + n, number(bus.tell(n)), number(plain.tell(n)));
+        } else if (kind < 96) {
+            call("start " + n, number(bus.start(n)), number(plain.start(n)));
+        } else if (style != 1) {
+            call("stop " + n, number(bus.stop(n)), number(plain.stop(n)));
+        }
+    }
+
+    private int anAddress() {
+        if (any(8) == 0) {
+            return oneOf(-1, 254, 255, 256, 0, 253, any(256));
+        }
+        return plain.told(any(plain.nodes.size()), 1);
+    }
+
+    private void sendSome(int n) {
+        int group = oneOf(61184, 61184, 65280, 65226, 65299, 0, 60160, 59904, 60928, 126464, 126208, 262143, 61440, 61695, 256 * any(1024));
+        int to = group / 256 % 256 < 240 ? anAddress() : oneOf(255, 255, 255, 255, 5);
+        if (any(6) == 0) {
+            to = 255;
+        }
+        int size = oneOf(1, 7, 8, 9, 14, 15, 30, 100, 1 + any(300), 1785, 1786, 0);
+        int seed = oneOf(64, 0, random.nextInt());
+        call("send " + n + " " + to + " " + group + " " + size + " " + seed,
+            number(bus.send(n, to, group, size, seed)), number(plain.send(n, to, group, size, seed)));
+    }
+
+    private void compareAll() {
+        for (int i = -1; i < 9; i++) {
+            for (int what = -1; what < 8; what++) {
+                look("told", bus.told(i, what), plain.told(i, what), i, what);
+            }
+            int address = any(3) == 0 ? any(256) : oneOf(-1, 0, 10, 20, 128, 129, 130, 131, 246, 247, 254);
+            look("table", bus.table(i, address), plain.table(i, address), i, address);
+            int k = any(22) - 1;
+            int what = any(6) - 1;
+            look("message", bus.message(i, k, what), plain.message(i, k, what), i, k, what);
+            int came = plain.told(i, 4) - 1;
+            look("message", bus.message(i, came, 3), plain.message(i, came, 3), i, came, 3);
+            int source = any(4) == 0 ? any(256) : oneOf(-1, 0, 10, 20, 128, 129, 130, 246, 247);
+            int trouble = any(13) - 2;
+            look("kept", bus.kept(i, source, trouble, what), plain.kept(i, source, trouble, what), i, source, trouble, what);
+            look("kept", bus.kept(i, source, -1, what), plain.kept(i, source, -1, what), i, source, -1, what);
+        }
+        for (int what = -1; what < 5; what++) {
+            look("carried", bus.carried(what), plain.carried(what), what);
+            look("count", bus.count(what), plain.count(what), what);
+        }
+        look("sound", number(bus.sound()), number(plain.sound()));
+    }
+
+    private void look(String what, int got, int due, int... at) {
+        if (got != due) {
+            call(what + " " + java.util.Arrays.toString(at), got, due);
+        }
+    }
+}
