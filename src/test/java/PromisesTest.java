@@ -85,6 +85,14 @@ public final class PromisesTest {
         return a | b << 8 | c << 16 | d << 24;
     }
 
+    private static int sum(int size, int seed) {
+        int sum = 0;
+        for (int i = 0; i < size; i++) {
+            sum += (seed + i * i + i / 256 & 255) * (i + 1);
+        }
+        return sum;
+    }
+
     private static void carried(ClaimBus bus, String what, int identifier, int first, int others, int node) {
         due(what + ": carried(0)", bus.carried(0), identifier);
         due(what + ": carried(1)", bus.carried(1), first);
@@ -342,6 +350,10 @@ public final class PromisesTest {
         bus.pass(1);
         due("no request", bus.told(1, 2), 0);
         due("page 1", bus.message(1, bus.told(1, 4) - 1, 1), 65536 + 234 * 256);
+        bus.send(2, 255, 240 * 256 + 17, 8, 0);
+        bus.pass(1);
+        carried(bus, "format 240", identifier(240, 17, 30), four(0, 1, 4, 9), four(16, 25, 36, 49), 2);
+        due("format 240 is to all", bus.message(0, 2, 1), 240 * 256 + 17);
         bus.send(0, 10, TO_ONE_GROUP, 2, 0);
         int before = bus.told(0, 4);
         bus.pass(2);
@@ -594,6 +606,26 @@ public final class PromisesTest {
         bus.pass(1);
         due("250 behind its last claim", bus.told(1, 0), 2);
         lateRival();
+        oneClaimAtATime();
+    }
+
+    /** Two rivals' claims are carried before the answer: their bytes, not their names, are less. */
+    private static void oneClaimAtATime() {
+        ClaimBus bus = new ClaimBus();
+        bus.node(0, 0x000000FF, 130, true, 1);
+        bus.node(0, 0x00000110, 130, true, 1);
+        bus.node(0, 0x00000205, 130, true, 1);
+        bus.start(0);
+        bus.pass(300);
+        bus.start(1);
+        bus.start(2);
+        bus.pass(2);
+        due("two claims came", bus.carried(3), 1);
+        due("one claim alone waits", bus.told(0, 2), 1);
+        bus.pass(10);
+        due("no more claims than needed", bus.count(2), 1 + 2 + 1 + 3);
+        due("the next", bus.told(1, 1), 131);
+        due("the one behind", bus.told(2, 1), 132);
     }
 
     /** A claim to a new address waits anew, though 250 went by since the one to the old address. */
@@ -737,6 +769,10 @@ public final class PromisesTest {
         due("nothing open", bus.told(1, 5), 0);
         due("size", bus.message(1, 0, 2), 15);
         due("group", bus.message(1, 0, 1), 65290);
+        due("sum", bus.message(1, 0, 3), sum(15, 3));
+        bus.send(0, 255, 65290, 9, 30);
+        bus.pass(150);
+        due("sum of the next", bus.message(1, 1, 3), sum(9, 30));
         bus.send(1, 255, 3 * 65536, 9, 3);
         bus.pass(1);
         carried(bus, "control", identifier(236, 255, 20), four(32, 9, 0, 2), four(255, 0, 0, 3), 1);
@@ -756,12 +792,8 @@ public final class PromisesTest {
         due("under way", bus.told(0, 3), 1);
         bus.pass(1);
         due("DONE", bus.told(0, 3), 2);
-        int sum = 0;
-        for (int i = 0; i < 1785; i++) {
-            sum += (100 + i * i + i / 256 & 255) * (i + 1);
-        }
-        due("sum", bus.message(1, 0, 3), sum);
-        due("sum", bus.message(2, 0, 3), sum);
+        due("sum", bus.message(1, 0, 3), sum(1785, 100));
+        due("sum", bus.message(2, 0, 3), sum(1785, 100));
     }
 
     private static void collecting() {
@@ -867,11 +899,7 @@ public final class PromisesTest {
         bus = fixed(16, 16);
         bus.send(0, 20, TO_ONE_GROUP, 1785, 200);
         bus.pass(272);
-        int sum = 0;
-        for (int i = 0; i < 1785; i++) {
-            sum += (200 + i * i + i / 256 & 255) * (i + 1);
-        }
-        due("the longest", bus.message(1, 0, 3), sum);
+        due("the longest", bus.message(1, 0, 3), sum(1785, 200));
         due("its 19", bus.told(1, 2), 1);
         bus.pass(1);
         carried(bus, "19", identifier(236, 10, 20), four(19, 1785 & 255, 1785 >> 8, 255), four(255, 0, 239, 0), 1);
@@ -972,6 +1000,14 @@ public final class PromisesTest {
         due("dropped", bus.told(1, 5), 0);
         bus.pass(5000);
         due("no more", bus.count(2), 7);
+        bus.start(0);
+        bus.pass(300);
+        bus.send(0, 20, TO_ONE_GROUP, 28, 1);
+        bus.pass(1);
+        bus.stop(0);
+        bus.pass(1250);
+        due("a new one waits three times, too", bus.carried(1), four(17, 2, 1, 255));
+        due("a new one waits three times, too", bus.told(1, 5), 1);
         bus = fixed(3, 3);
         bus.send(0, 20, TO_ONE_GROUP, 28, 1);
         bus.pass(3);
@@ -1016,6 +1052,8 @@ public final class PromisesTest {
         due("its group", bus.message(4, 0, 1), TO_ONE_GROUP);
         due("its source", bus.message(4, 0, 0), 30);
         placesInOrder();
+        waitsOfOneThatBeganAnew();
+        clearedTwice();
     }
 
     /** Two transports wait like long; the one in the first place speaks first, whoever began it. */
@@ -1040,6 +1078,48 @@ public final class PromisesTest {
         due("the first place's 17", bus.carried(0), identifier(236, 10, 5));
         bus.pass(5);
         due("then the second's", bus.carried(0), identifier(236, 20, 5));
+    }
+
+    /** A 16 behind two waits of the same source: the third wait is the first one of the new transport. */
+    private static void waitsOfOneThatBeganAnew() {
+        ClaimBus bus = fixed(4, 4);
+        bus.send(0, 20, TO_ONE_GROUP, 20, 1);
+        bus.pass(1);
+        bus.stop(0);
+        bus.pass(2501);
+        due("17 a third time", bus.count(2), 6);
+        bus.start(0);
+        bus.pass(260);
+        bus.send(0, 20, TO_ONE_GROUP, 20, 1);
+        bus.pass(1);
+        bus.stop(0);
+        bus.pass(1250);
+        due("17 again, not 255", bus.carried(1), four(17, 3, 1, 255));
+        due("gets still", bus.told(1, 5), 1);
+    }
+
+    /** A 17 of the transport before comes when the new 16 is put: packets are put twice. */
+    private static void clearedTwice() {
+        ClaimBus bus = fixed(16, 16);
+        bus.send(0, 20, TO_ONE_GROUP, 20, 1);
+        bus.pass(1);
+        bus.stop(0);
+        bus.start(0);
+        bus.pass(1249);
+        bus.send(0, 20, TO_ONE_GROUP, 14, 9);
+        bus.pass(1);
+        carried(bus, "17 of the old one", identifier(236, 10, 20), four(17, 3, 1, 255),
+            four(255, 0, 239, 0), 1);
+        due("also a packet behind the last one", bus.told(0, 2), 4);
+        bus.pass(4);
+        carried(bus, "a packet of 255s", identifier(235, 20, 10), four(3, 255, 255, 255), -1, 0);
+        due("came", bus.told(1, 4), 1);
+        due("under way", bus.told(0, 3), 1);
+        bus.pass(4);
+        due("17, both packets again, 19", bus.carried(1), four(19, 14, 0, 2));
+        due("came once", bus.told(1, 4), 1);
+        due("size", bus.message(1, 0, 2), 14);
+        due("DONE", bus.told(0, 3), 2);
     }
 
     private static void endsOfTransports() {
@@ -1167,6 +1247,22 @@ public final class PromisesTest {
         due("the one that came late", bus.table(1, 0), -1);
         due("the one that came late", bus.table(1, 131), 2);
         nameThatGaveUp();
+        lesserNameComesLate();
+    }
+
+    private static void lesserNameComesLate() {
+        ClaimBus bus = new ClaimBus();
+        bus.node(0, 9, 0, false, 1);
+        bus.node(0, 8, 130, true, 1);
+        bus.node(0, 7, 130, true, 1);
+        bus.start(0);
+        bus.start(1);
+        bus.pass(300);
+        bus.start(2);
+        bus.pass(1);
+        due("an address one name", bus.table(0, 130), 2);
+        bus.pass(1);
+        due("its new address", bus.table(0, 131), 1);
     }
 
     private static void nameThatGaveUp() {
@@ -1191,11 +1287,7 @@ public final class PromisesTest {
         ClaimBus bus = fixed(4, 4, 4);
         bus.send(0, 20, TO_ONE_GROUP, 9, 7);
         bus.pass(20);
-        int sum = 0;
-        for (int i = 0; i < 9; i++) {
-            sum += (7 + i * i) * (i + 1);
-        }
-        int[] want = {10, TO_ONE_GROUP, 9, sum};
+        int[] want = {10, TO_ONE_GROUP, 9, sum(9, 7)};
         for (int what = 0; what < 4; what++) {
             due("message", bus.message(1, 0, what), want[what]);
         }
@@ -1217,11 +1309,7 @@ public final class PromisesTest {
         bus = fixed(4, 4);
         bus.send(0, 20, TO_ONE_GROUP, 600, 0x7FFFFFFF);
         bus.pass(2000);
-        sum = 0;
-        for (int i = 0; i < 600; i++) {
-            sum += (255 + i * i + i / 256 & 255) * (i + 1);
-        }
-        due("seed, i i and i / 256", bus.message(1, 0, 3), sum);
+        due("seed, i i and i / 256", bus.message(1, 0, 3), sum(600, 255));
     }
 
     private static void keptTroubles() {
@@ -1296,6 +1384,15 @@ public final class PromisesTest {
         bus.send(0, 255, 65226 + 65536, 8, 64);
         bus.pass(1);
         due("another group", bus.kept(1, 10, -1, 0), 10);
+        bus.node(0, 9, 0, false, 1);
+        bus.start(2);
+        bus.pass(300);
+        bus.trouble(2, 5, 6, 7);
+        bus.tell(2);
+        bus.pass(1);
+        due("of source 0", bus.kept(1, 0, -1, 0), 1);
+        due("of source 0", bus.kept(1, 0, 0, 1), 6);
+        due("of source 0 to another", bus.kept(0, 0, 0, 2), 7);
     }
 
     private static void carriedFrames() {
