@@ -310,7 +310,7 @@ public final class ClaimBus {
             Node one = find(i);
             if (one != null && one.row.readFirst(candidate)) {
                 if (which == BAD || candidate.goesBefore(last)) {
-                    last.copyOf(candidate);
+                    last.takeOver(candidate);
                     which = i;
                 }
             }
@@ -367,6 +367,11 @@ public final class ClaimBus {
         return (first & 255) | (second & 255) << 8 | (third & 255) << 16 | fourth << 24;
     }
 
+    /** Whether a number is less than another one, both without sign. */
+    private static boolean isLess(int number, int other) {
+        return (number ^ 1 << 31) < (other ^ 1 << 31);
+    }
+
     /** The identifier of a frame that is no claim, of the formats that tell to whom it goes. */
     private static int identifier(int format, int to, int source) {
         return 7 << 26 | format << 16 | to << 8 | source;
@@ -380,7 +385,7 @@ public final class ClaimBus {
         /** The message that it is a part of, so that sound() can compare: no node decides by it. */
         Message whole = null;
 
-        void copyOf(Frame other) {
+        void takeOver(Frame other) {
             identifier = other.identifier;
             first = other.first;
             others = other.others;
@@ -425,14 +430,12 @@ public final class ClaimBus {
             if (identifier != other.identifier) {
                 return identifier < other.identifier;
             }
-            if (first != other.first) {
-                return comesBefore(first, other.first);
+            for (int i = 0; i < FRAME_BYTES; i++) {
+                if (byteAt(i) != other.byteAt(i)) {
+                    return byteAt(i) < other.byteAt(i);
+                }
             }
-            return comesBefore(others, other.others);
-        }
-
-        private static boolean comesBefore(int bytes, int otherBytes) {
-            return Integer.compareUnsigned(Integer.reverseBytes(bytes), Integer.reverseBytes(otherBytes)) < 0;
+            return false;
         }
     }
 
@@ -1061,10 +1064,7 @@ public final class ClaimBus {
         }
 
         private boolean goesBeforeName(int otherHigh, int otherLow) {
-            if (high != otherHigh) {
-                return Integer.compareUnsigned(high, otherHigh) < 0;
-            }
-            return Integer.compareUnsigned(low, otherLow) < 0;
+            return high != otherHigh ? isLess(high, otherHigh) : isLess(low, otherLow);
         }
 
         /** The first address behind the own one that the table does not have; the own one last. */
