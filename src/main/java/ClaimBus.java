@@ -39,6 +39,8 @@ public final class ClaimBus {
     private static final int BROKEN_OFF = 255;
     private static final int WHY_NO_PLACE = 2;
     private static final int WHY_TIME = 3;
+    /** Beside the control frames' first bytes and the formats above: a message that is one frame. */
+    private static final int SHORT = 0;
 
     private static final int CLAIM_WAIT = 250;
     private static final int PACKET_PACE = 50;
@@ -64,8 +66,8 @@ public final class ClaimBus {
     private static final int MOST_OC = 127;
 
     private final Node[] nodes = new Node[MOST_NODES];
+    private final Store store = new Store();
     private final Frame last = new Frame();
-    private final Frame candidate = new Frame();
     private int nodeCount = 0;
     private int time = 0;
     private int framesCarried = 0;
@@ -82,7 +84,7 @@ public final class ClaimBus {
         if (nodeCount >= MOST_NODES || nameIsThere(high, low)) {
             return BAD;
         }
-        nodes[nodeCount] = new Node(high, low, address, free, window);
+        nodes[nodeCount] = new Node(high, low, address, free, window, store);
         nodeCount++;
         return nodeCount - 1;
     }
@@ -111,7 +113,7 @@ public final class ClaimBus {
         if (asker == null || asker.state != HAS || !isReceiver(to)) {
             return false;
         }
-        asker.putRequest(to);
+        asker.row.put(null, to, REQUEST, 0, 0);
         return true;
     }
 
@@ -120,7 +122,7 @@ public final class ClaimBus {
         if (sender == null || !sender.maySend() || !isSendable(to, group, size)) {
             return false;
         }
-        sender.beginSending(new Message(group, size, seed, null), to, time);
+        sender.beginSending(store.newMessage(to, group, size, seed), time);
         return true;
     }
 
@@ -140,7 +142,7 @@ public final class ClaimBus {
         if (teller == null || !teller.maySend()) {
             return false;
         }
-        teller.beginSending(teller.troubleMessage(), TO_ALL, time);
+        teller.beginSending(store.newTelling(teller.copyOfTroubles()), time);
         return true;
     }
 
@@ -306,14 +308,17 @@ public final class ClaimBus {
     /** Whose first frame goes before all others (it stands in "last" then), or BAD. */
     private int firstToSend() {
         int which = BAD;
+        Frame best = null;
         for (int i = 0; i < nodeCount; i++) {
             Node one = find(i);
-            if (one != null && one.row.readFirst(candidate)) {
-                if (which == BAD || candidate.goesBefore(last)) {
-                    last.takeOver(candidate);
-                    which = i;
-                }
+            Frame frame = one == null ? null : one.row.first(one.address);
+            if (frame != null && (best == null || frame.goesBefore(best))) {
+                best = frame;
+                which = i;
             }
+        }
+        if (best != null) {
+            last.takeOver(best);
         }
         return which;
     }
@@ -382,14 +387,18 @@ public final class ClaimBus {
         int identifier = 0;
         int first = 0;
         int others = 0;
-        /** The message that it is a part of, so that sound() can compare: no node decides by it. */
+        /** The message that it belongs to: sound() compares with it, and an answer's entry names it. */
         Message whole = null;
 
+        void write(int identifier, int first, int others, Message whole) {
+            this.identifier = identifier;
+            this.first = first;
+            this.others = others;
+            this.whole = whole;
+        }
+
         void takeOver(Frame other) {
-            identifier = other.identifier;
-            first = other.first;
-            others = other.others;
-            whole = other.whole;
+            write(other.identifier, other.first, other.others, other.whole);
         }
 
         boolean isOf(int format) {
@@ -439,106 +448,234 @@ public final class ClaimBus {
         }
     }
 
-    /** The frames of a node that wait: a ring that grows, so that a run makes few arrays. */
-    private static final class Row {
-        private static final int MOST_FRAMES = 16384;
-        private static final int NUMBERS = 3;
+    /** What all nodes of a bus share: the messages that were sent, and the chunks that no row has in use. */
+    private static final class Store {
+        private final ArrayList<Message> messages = new ArrayList<Message>();
+        private Chunk unused = null;
 
-        private Message[] wholes = new Message[16];
-        private int[] numbers = new int[16 * NUMBERS];
-        private int head = 0;
-        private int size = 0;
+        Message newMessage(int to, int group, int size, int seed) {
+            Message made = new Message(messages.size(), to, group, size, seed);
+            messages.add(made);
+            return made;
+        }
+
+        Message newTelling(int[] troubles) {
+            Message made = newMessage(TO_ALL, TROUBLE_GROUP, 2 + 4 * troubles.length, 0);
+            made.troubles = troubles;
+            return made;
+        }
+
+        Message messageAt(int index) {
+            return index >= 0 && index < messages.size() ? messages.get(index) : null;
+        }
+
+        /** A chunk that was in use before, or null if there is none. */
+        Chunk lend() {
+            Chunk lent = unused;
+            if (lent != null) {
+                unused = lent.next;
+                lent.next = null;
+            }
+            return lent;
+        }
+
+        /** Takes a chain of chunks back, in one step however long it is. */
+        void takeBack(Chunk first, Chunk last) {
+            last.next = unused;
+            unused = first;
+        }
+    }
+
+    /** A part of a row. Rows are chains of these: no row has a longest length, and none is ever copied. */
+    private static final class Chunk {
+        private static final int PLACES = 128;
+
+        final long[] entries = new long[PLACES];
+        Chunk next = null;
+    }
+
+    /**
+     * The frames of a node that wait. An entry tells a frame, or the packets of one message that were
+     * put at once, in one number: a run may leave hundreds of thousands of frames waiting, and
+     * the room for all its calls is small.
+     */
+    private static final class Row {
+        private final int high;
+        private final int low;
+        private final Store store;
+        private Chunk head = null;
+        private Chunk tail = null;
+        private int headPlace = 0;
+        private int tailPlace = 0;
+        private int frames = 0;
+        /** How many frames of the first entry were carried. */
+        private int gone = 0;
+        private boolean claimWaits = false;
+        private final Frame first = new Frame();
+        private boolean firstIsWritten = false;
+
+        Row(int high, int low, Store store) {
+            this.high = high;
+            this.low = low;
+            this.store = store;
+        }
 
         int length() {
-            return size;
+            return claimWaits ? frames + 1 : frames;
         }
 
-        void putLast(int identifier, int first, int others, Message whole) {
-            if (makeRoom()) {
-                int slot = head + size;
-                size++;
-                write(slot < wholes.length ? slot : slot - wholes.length, identifier, first, others, whole);
+        void putClaim() {
+            if (!claimWaits) {
+                claimWaits = true;
+                firstIsWritten = false;
             }
         }
 
-        void putFirst(int identifier, int first, int others) {
-            if (makeRoom()) {
-                head = head == 0 ? wholes.length - 1 : head - 1;
-                size++;
-                write(head, identifier, first, others, null);
+        /**
+         * One more entry: a frame of that kind, or (kind PACKET) so many packets as second tells, from the
+         * third on; what else second and third tell, Message.writeControl knows. A request is about none.
+         */
+        void put(Message about, int to, int kind, int second, int third) {
+            if (tail == null || tailPlace >= Chunk.PLACES) {
+                Chunk lent = store.lend();
+                lengthen(lent == null ? new Chunk() : lent);
+            }
+            int index = about == null ? BAD : about.index;
+            int what = to << 24 | (kind & 255) << 16 | (second & 255) << 8 | third & 255;
+            if (tail != null && tailPlace >= 0 && tailPlace < tail.entries.length) {
+                tail.entries[tailPlace] = (long) index << 32 | what & 4294967295L;
+                tailPlace++;
+                frames += kind == PACKET ? second : 1;
             }
         }
 
-        boolean readFirst(Frame into) {
-            int at = head * NUMBERS;
-            if (size == 0 || head >= wholes.length || at + 2 >= numbers.length) {
-                return false;
+        private void lengthen(Chunk more) {
+            if (tail == null) {
+                head = more;
+                headPlace = 0;
+            } else {
+                tail.next = more;
             }
-            into.identifier = numbers[at];
-            into.first = numbers[at + 1];
-            into.others = numbers[at + 2];
-            into.whole = wholes[head];
-            return true;
+            tail = more;
+            tailPlace = 0;
+        }
+
+        private long firstEntry() {
+            boolean isThere = head != null && headPlace >= 0 && headPlace < head.entries.length;
+            return isThere ? head.entries[headPlace] : 0L;
+        }
+
+        /** The frame that stands first, of a node with that address; null if none waits. */
+        Frame first(int address) {
+            if (length() == 0) {
+                return null;
+            }
+            if (!firstIsWritten) {
+                writeFirst(address);
+                firstIsWritten = true;
+            }
+            return first;
+        }
+
+        // No entry tells the source: a row is dropped whenever its node's address becomes another one.
+        private void writeFirst(int address) {
+            if (claimWaits) {
+                first.write(6 << 26 | CLAIM << 16 | TO_ALL << 8 | address, low, high, null);
+                return;
+            }
+            long entry = firstEntry();
+            Message message = store.messageAt((int) (entry >> 32));
+            int what = (int) entry;
+            int to = what >>> 24;
+            int kind = what >>> 16 & 255;
+            if (message == null) {
+                first.write(identifier(REQUEST, to, address), pack(0, CLAIM, 0, 255), -1, null);
+            } else if (kind == SHORT) {
+                message.writeShort(first, address);
+            } else if (kind == PACKET) {
+                message.writePacket(first, address, (what & 255) + gone);
+            } else {
+                message.writeControl(first, identifier(CONTROL, to, address), kind, what >>> 8 & 255, what & 255);
+            }
         }
 
         void removeFirst() {
-            if (size > 0) {
-                head = head + 1 < wholes.length ? head + 1 : 0;
-                size--;
+            firstIsWritten = false;
+            if (claimWaits) {
+                claimWaits = false;
+            } else if (frames == 1) {
+                clear();
+            } else if (frames > 1) {
+                frames--;
+                removeFromFirstEntry();
+            }
+        }
+
+        private void removeFromFirstEntry() {
+            int what = (int) firstEntry();
+            boolean isPackets = (what >>> 16 & 255) == PACKET;
+            gone++;
+            if (isPackets && gone < (what >>> 8 & 255)) {
+                return;
+            }
+            gone = 0;
+            headPlace++;
+            if (headPlace >= Chunk.PLACES && head != null) {
+                Chunk done = head;
+                head = done.next;
+                headPlace = 0;
+                store.takeBack(done, done);
             }
         }
 
         void clear() {
-            head = 0;
-            size = 0;
-        }
-
-        private void write(int slot, int identifier, int first, int others, Message whole) {
-            int at = slot * NUMBERS;
-            if (slot >= 0 && slot < wholes.length && at + 2 < numbers.length) {
-                numbers[at] = identifier;
-                numbers[at + 1] = first;
-                numbers[at + 2] = others;
-                wholes[slot] = whole;
+            if (head != null && tail != null) {
+                store.takeBack(head, tail);
             }
-        }
-
-        /** Whether one more frame has a slot; the ring is twice as long where it was full. */
-        private boolean makeRoom() {
-            if (size < wholes.length) {
-                return true;
-            }
-            if (size >= MOST_FRAMES) {
-                return false;
-            }
-            Message[] moreWholes = new Message[2 * size];
-            int[] moreNumbers = new int[2 * size * NUMBERS];
-            for (int i = 0; i < size; i++) {
-                int slot = head + i < size ? head + i : head + i - size;
-                moreWholes[i] = wholes[slot];
-                for (int j = 0; j < NUMBERS; j++) {
-                    moreNumbers[i * NUMBERS + j] = numbers[slot * NUMBERS + j];
-                }
-            }
-            wholes = moreWholes;
-            numbers = moreNumbers;
-            head = 0;
-            return true;
+            head = null;
+            tail = null;
+            frames = 0;
+            gone = 0;
+            claimWaits = false;
+            firstIsWritten = false;
         }
     }
 
     /** A message as it was sent: its bytes come from the seed, or from the troubles that it tells. */
     private static final class Message {
+        final int index;
+        final int to;
         final int group;
         final int size;
         private final int seed;
-        private final int[] troubles;
+        int[] troubles = null;
 
-        Message(int group, int size, int seed, int[] troubles) {
+        Message(int index, int to, int group, int size, int seed) {
+            this.index = index;
+            this.to = to;
             this.group = group;
             this.size = size;
             this.seed = seed;
-            this.troubles = troubles;
+        }
+
+        void writeShort(Frame frame, int address) {
+            boolean hasTo = (group >> 8 & 255) < FIRST_WITHOUT_TO;
+            int identifier = 7 << 26 | group << 8 | (hasTo ? to << 8 : 0) | address;
+            frame.write(identifier, fourFrom(0), fourFrom(4), this);
+        }
+
+        void writePacket(Frame frame, int address, int number) {
+            int from = (number - 1) * PACKET_BYTES;
+            int first = number & 255 | fourFrom(from) << 8;
+            frame.write(identifier(PACKET, to, address), first, fourFrom(from + 3), this);
+        }
+
+        /** 17 and 255 tell what was told them and 255; the others the size, the packets, and the window or 255. */
+        void writeControl(Frame frame, int identifier, int kind, int second, int third) {
+            boolean tellsSize = kind != CLEARED && kind != BROKEN_OFF;
+            int first = tellsSize ? pack(kind, size, size >> 8, packets()) : pack(kind, second, third, 255);
+            int fifth = tellsSize ? second : 255;
+            frame.write(identifier, first, fifth | group << 8, this);
         }
 
         int packets() {
@@ -572,14 +709,13 @@ public final class ClaimBus {
     /** What a node sends, or sent last. */
     private static final class Sending {
         int state = 0;
-        int to = TO_ALL;
         int nextPacket = 1;
         int due = 0;
         Message whole = null;
 
         /** Whether what a node with that address tells of that group concerns this. */
         boolean goesTo(int address, int group) {
-            return state == UNDER_WAY && to == address && whole != null && whole.group == group;
+            return state == UNDER_WAY && whole != null && whole.to == address && whole.group == group;
         }
     }
 
@@ -598,7 +734,7 @@ public final class ClaimBus {
         /** The sum of each byte that came times its number from 1 on. */
         int sum = 0;
         boolean isAsSent = true;
-        private Message whole = null;
+        Message whole = null;
         /** Only these bytes are kept: the troubles, if it tells some. */
         private final int[] beginning = new int[2 + 4 * MOST_TROUBLES];
 
@@ -791,7 +927,7 @@ public final class ClaimBus {
         final int wanted;
         private final boolean free;
         private final int window;
-        final Row row = new Row();
+        final Row row;
         final Table table = new Table();
         final Sending sending = new Sending();
         final Inbox inbox = new Inbox();
@@ -801,18 +937,18 @@ public final class ClaimBus {
         private int troubleCount = 0;
         int state = OFF;
         int address;
-        private boolean claimWaits = false;
         private int claimCarriedAt = NEVER;
         int toLose = 0;
         int lost = 0;
 
-        Node(int high, int low, int wanted, boolean free, int window) {
+        Node(int high, int low, int wanted, boolean free, int window, Store store) {
             this.high = high;
             this.low = low;
             this.wanted = wanted;
             this.free = free;
             this.window = window;
             this.address = wanted;
+            this.row = new Row(high, low, store);
         }
 
         boolean sharesAddressWith(Node other) {
@@ -843,13 +979,13 @@ public final class ClaimBus {
             return troubleCount;
         }
 
-        /** A copy of the troubles, since a trouble may be added while the message is under way. */
-        Message troubleMessage() {
+        /** A copy, since a trouble may be added while the message that tells them is under way. */
+        int[] copyOfTroubles() {
             int[] told = new int[troubleCount];
             for (int i = 0; i < told.length && i < troubles.length; i++) {
                 told[i] = troubles[i];
             }
-            return new Message(TROUBLE_GROUP, 2 + 4 * told.length, 0, told);
+            return told;
         }
 
         void claimAddress(int wish) {
@@ -857,7 +993,7 @@ public final class ClaimBus {
             state = CLAIMING;
             // the wait of 250 begins only when the claim to this very address is carried
             claimCarriedAt = NEVER;
-            putClaim();
+            row.putClaim();
         }
 
         void turnOff() {
@@ -870,7 +1006,6 @@ public final class ClaimBus {
 
         private void dropAll() {
             row.clear();
-            claimWaits = false;
             if (sending.state == UNDER_WAY) {
                 sending.state = FAILED;
             }
@@ -884,58 +1019,31 @@ public final class ClaimBus {
             }
         }
 
-        void putClaim() {
-            if (!claimWaits) {
-                claimWaits = true;
-                row.putFirst(6 << 26 | CLAIM << 16 | TO_ALL << 8 | address, low, high);
-            }
-        }
-
-        void putRequest(int to) {
-            row.putLast(identifier(REQUEST, to, address), pack(0, CLAIM, 0, 255), -1, null);
-        }
-
-        private void putControl(int to, int first, int fifth, int group, Message whole) {
-            row.putLast(identifier(CONTROL, to, address), first, fifth | group << 8, whole);
-        }
-
-        private void putPacket(int number) {
-            Message whole = sending.whole;
-            if (whole != null) {
-                int from = (number - 1) * PACKET_BYTES;
-                int first = number & 255 | whole.fourFrom(from) << 8;
-                row.putLast(identifier(PACKET, sending.to, address), first, whole.fourFrom(from + 3), whole);
-            }
-        }
-
         boolean maySend() {
             return state == HAS && sending.state != UNDER_WAY;
         }
 
-        void beginSending(Message whole, int to, int time) {
-            int size = whole.size;
-            int group = whole.group;
+        void beginSending(Message whole, int time) {
             sending.whole = whole;
-            sending.to = to;
             sending.nextPacket = 1;
-            if (size <= FRAME_BYTES) {
-                boolean hasTo = (group >> 8 & 255) < FIRST_WITHOUT_TO;
-                int identifier = 7 << 26 | group << 8 | (hasTo ? to << 8 : 0) | address;
-                row.putLast(identifier, whole.fourFrom(0), whole.fourFrom(4), whole);
+            if (whole.size <= FRAME_BYTES) {
+                row.put(whole, whole.to, SHORT, 0, 0);
                 sending.state = DONE;
                 return;
             }
-            boolean toAll = to == TO_ALL;
-            int first = pack(toAll ? TO_ALL_FOLLOWS : WANTS_TO_SEND, size, size >> 8, whole.packets());
-            putControl(to, first, toAll ? 255 : window, group, whole);
-            sending.due = time + (toAll ? PACKET_PACE : ANSWER_WAIT);
+            if (whole.to == TO_ALL) {
+                row.put(whole, TO_ALL, TO_ALL_FOLLOWS, 255, 0);
+                sending.due = time + PACKET_PACE;
+            } else {
+                row.put(whole, whole.to, WANTS_TO_SEND, window, 0);
+                sending.due = time + ANSWER_WAIT;
+            }
             sending.state = UNDER_WAY;
         }
 
         void frameWasCarried(boolean isClaim, int time) {
             row.removeFirst();
             if (isClaim) {
-                claimWaits = false;
                 claimCarriedAt = time;
             }
         }
@@ -983,15 +1091,19 @@ public final class ClaimBus {
         }
 
         private void sendOn(int time) {
-            if (sending.to != TO_ALL) {
-                breakOff(sending.to, sending.whole == null ? 0 : sending.whole.group, WHY_TIME);
+            Message whole = sending.whole;
+            if (whole == null) {
+                return;
+            }
+            if (whole.to != TO_ALL) {
+                breakOff(whole, whole.to, WHY_TIME);
                 sending.state = FAILED;
                 return;
             }
-            putPacket(sending.nextPacket);
+            row.put(whole, TO_ALL, PACKET, 1, sending.nextPacket);
             sending.nextPacket++;
             sending.due = time + PACKET_PACE;
-            if (sending.whole == null || sending.nextPacket > sending.whole.packets()) {
+            if (sending.nextPacket > whole.packets()) {
                 sending.state = DONE;
             }
         }
@@ -1001,13 +1113,13 @@ public final class ClaimBus {
             if (got.waits < 3) {
                 clearNext(got, time);
             } else {
-                breakOff(got.source, got.group, WHY_TIME);
+                breakOff(got.whole, got.source, WHY_TIME);
                 got.open = false;
             }
         }
 
-        private void breakOff(int to, int group, int why) {
-            putControl(to, pack(BROKEN_OFF, why, 255, 255), 255, group, null);
+        private void breakOff(Message whole, int to, int why) {
+            row.put(whole, to, BROKEN_OFF, why, 255);
         }
 
         private void clearNext(Transport got, int time) {
@@ -1015,7 +1127,7 @@ public final class ClaimBus {
             int many = Math.min(Math.min(window, got.window), left);
             got.clearedTo = got.expected + many - 1;
             got.lastHeard = time;
-            putControl(got.source, pack(CLEARED, many, got.expected, 255), 255, got.group, null);
+            row.put(got.whole, got.source, CLEARED, many, got.expected);
         }
 
         /** A frame of another node comes to this one, which is on. */
@@ -1028,7 +1140,7 @@ public final class ClaimBus {
             } else if (!frame.isFor(address)) {
                 return;
             } else if (frame.isOf(REQUEST)) {
-                putClaim();
+                row.putClaim();
             } else if (state != HAS) {
                 return;
             } else if (frame.isOf(CONTROL)) {
@@ -1049,7 +1161,7 @@ public final class ClaimBus {
                 return;
             }
             if (goesBeforeName(frame.others, frame.first)) {
-                putClaim();
+                row.putClaim();
                 return;
             }
             dropAll();
@@ -1057,7 +1169,7 @@ public final class ClaimBus {
             if (next == NO_ADDRESS) {
                 state = NONE;
                 address = NO_ADDRESS;
-                putClaim();
+                row.putClaim();
             } else {
                 claimAddress(next);
             }
@@ -1088,7 +1200,7 @@ public final class ClaimBus {
                 case WANTS_TO_SEND:
                     Transport got = placeFor(source);
                     if (got == null) {
-                        breakOff(source, group, WHY_NO_PLACE);
+                        breakOff(frame.whole, source, WHY_NO_PLACE);
                     } else {
                         got.begin(frame, time);
                         clearNext(got, time);
@@ -1119,8 +1231,9 @@ public final class ClaimBus {
         }
 
         private void sendCleared(int many, int from, int time) {
-            for (int i = 0; i < many; i++) {
-                putPacket(from + i);
+            Message whole = sending.whole;
+            if (whole != null && many > 0) {
+                row.put(whole, whole.to, PACKET, many, from);
             }
             sending.due = time + ANSWER_WAIT;
         }
@@ -1160,7 +1273,7 @@ public final class ClaimBus {
             }
             got.takePacket(frame, time);
             if (got.isWhole()) {
-                putControl(got.source, pack(ALL_CAME, got.size, got.size >> 8, got.packets), 255, got.group, null);
+                row.put(got.whole, got.source, ALL_CAME, 255, 0);
                 got.open = false;
                 inbox.takeMessage(got);
             } else if (got.expected > got.clearedTo) {
