@@ -1211,6 +1211,47 @@ public final class PromisesTest {
         bus.pass(199);
         due("in their order", bus.carried(1), four(199, 255, 255, 255));
         due("none waits", bus.told(0, 2), 0);
+        claimBeforePackets();
+        packetsOfNone();
+    }
+
+    private static void claimBeforePackets() {
+        ClaimBus bus = fixed(16, 16);
+        bus.send(0, 20, TO_ONE_GROUP, 100, 1);
+        bus.pass(2);
+        due("15 packets put at once", bus.told(0, 2), 15);
+        bus.pass(3);
+        due("12 are left", bus.told(0, 2), 12);
+        bus.request(1, 10);
+        bus.pass(1);
+        due("and a claim", bus.told(0, 2), 13);
+        bus.request(0, 20);
+        due("and a request", bus.told(0, 2), 14);
+        bus.pass(1);
+        carried(bus, "the claim first", claim(10), 1, 0, 0);
+        for (int number = 4; number <= 15; number++) {
+            bus.pass(1);
+            due("the packets go on", bus.carried(1) & 255, number);
+        }
+        due("the request is left", bus.told(0, 2), 1);
+        bus.pass(1);
+        carried(bus, "the request last", identifier(234, 20, 10), four(0, 238, 0, 255), -1, 0);
+    }
+
+    private static void packetsOfNone() {
+        ClaimBus bus = fixed(16, 16);
+        bus.send(0, 20, TO_ONE_GROUP, 100, 1);
+        bus.pass(4);
+        due("13 packets wait", bus.told(0, 2), 13);
+        bus.stop(0);
+        due("none waits", bus.told(0, 2), 0);
+        bus.start(0);
+        due("the claim waits", bus.told(0, 2), 1);
+        bus.pass(300);
+        due("none waits", bus.told(0, 2), 0);
+        bus.send(0, 20, TO_ONE_GROUP, 8, 1);
+        bus.pass(1);
+        due("one frame comes", bus.message(1, 0, 2), 8);
     }
 
     private static void tables() {
