@@ -1,12 +1,5 @@
 /** Runs by hand for each promise: ordinary calls, the edges that the document names, wrong calls. */
-public final class PromisesTest {
-    private static final int TO_ALL_GROUP = 65280;
-    private static final int TO_ONE_GROUP = 61184;
-
-    private static int wrong = 0;
-    private static int right = 0;
-    private static String promise = "";
-
+public final class PromisesTest extends Checks {
     private PromisesTest() {
     }
 
@@ -41,67 +34,11 @@ public final class PromisesTest {
         carriedFrames();
         soundness();
         counts();
-        System.out.println("PromisesTest: " + right + " right, " + wrong + " wrong");
-        System.exit(wrong == 0 ? 0 : 1);
-    }
-
-    private static void due(String what, int got, int want) {
-        if (got == want) {
-            right++;
-        } else {
-            wrong++;
-            System.out.println(promise + ": " + what + " answered " + got + ", due is " + want);
-        }
-    }
-
-    private static void yes(String what, boolean got) {
-        due(what, got ? 1 : 0, 1);
-    }
-
-    private static void no(String what, boolean got) {
-        due(what, got ? 1 : 0, 0);
-    }
-
-    /** Nodes 0, 1, .. with the addresses 10, 20, .. that are not free, on, 300 milliseconds old. */
-    private static ClaimBus fixed(int... windows) {
-        ClaimBus bus = new ClaimBus();
-        for (int i = 0; i < windows.length; i++) {
-            bus.node(0, i + 1, 10 * (i + 1), false, windows[i]);
-            bus.start(i);
-        }
-        bus.pass(300);
-        return bus;
-    }
-
-    private static int identifier(int format, int to, int source) {
-        return 7 << 26 | format << 16 | to << 8 | source;
-    }
-
-    private static int claim(int source) {
-        return 6 << 26 | 238 << 16 | 255 << 8 | source;
-    }
-
-    private static int four(int a, int b, int c, int d) {
-        return a | b << 8 | c << 16 | d << 24;
-    }
-
-    private static int sum(int size, int seed) {
-        int sum = 0;
-        for (int i = 0; i < size; i++) {
-            sum += (seed + i * i + i / 256 & 255) * (i + 1);
-        }
-        return sum;
-    }
-
-    private static void carried(ClaimBus bus, String what, int identifier, int first, int others, int node) {
-        due(what + ": carried(0)", bus.carried(0), identifier);
-        due(what + ": carried(1)", bus.carried(1), first);
-        due(what + ": carried(2)", bus.carried(2), others);
-        due(what + ": carried(3)", bus.carried(3), node);
+        end("PromisesTest");
     }
 
     private static void newObject() {
-        promise = "1";
+        sentence("1");
         ClaimBus bus = new ClaimBus();
         due("BAD", ClaimBus.BAD, -1);
         for (int what = 0; what < 4; what++) {
@@ -115,7 +52,7 @@ public final class PromisesTest {
     }
 
     private static void nodes() {
-        promise = "2";
+        sentence("2");
         ClaimBus bus = new ClaimBus();
         due("address 248", bus.node(1, 1, 248, false, 1), -1);
         due("address -1", bus.node(1, 1, -1, false, 1), -1);
@@ -135,7 +72,7 @@ public final class PromisesTest {
     }
 
     private static void starts() {
-        promise = "3";
+        sentence("3");
         ClaimBus bus = new ClaimBus();
         bus.node(0x01020304, 0x85060708, 200, true, 1);
         no("none such", bus.start(1));
@@ -162,7 +99,7 @@ public final class PromisesTest {
     }
 
     private static void stops() {
-        promise = "4";
+        sentence("4");
         ClaimBus bus = fixed(16, 16, 16);
         no("none such", bus.stop(3));
         no("none such", bus.stop(-1));
@@ -218,7 +155,7 @@ public final class PromisesTest {
     }
 
     private static void requests() {
-        promise = "5";
+        sentence("5");
         ClaimBus bus = fixed(1, 1, 1);
         bus.node(0, 4, 20, false, 1);
         no("none such", bus.request(4, 255));
@@ -279,7 +216,7 @@ public final class PromisesTest {
     }
 
     private static void sends() {
-        promise = "6";
+        sentence("6");
         ClaimBus bus = fixed(1, 1);
         bus.node(0, 3, 10, false, 1);
         no("none such", bus.send(3, 255, TO_ALL_GROUP, 1, 1));
@@ -327,7 +264,7 @@ public final class PromisesTest {
     }
 
     private static void oneFrames() {
-        promise = "6 (one frame)";
+        sentence("6 (one frame)");
         ClaimBus bus = fixed(1, 1, 1);
         bus.send(0, 20, TO_ONE_GROUP, 3, 7);
         bus.pass(1);
@@ -381,7 +318,7 @@ public final class PromisesTest {
     }
 
     private static void troubles() {
-        promise = "7";
+        sentence("7");
         ClaimBus bus = new ClaimBus();
         due("none such", bus.trouble(0, 1, 1, 1), -1);
         bus.node(1, 1, 1, false, 1);
@@ -401,7 +338,7 @@ public final class PromisesTest {
     }
 
     private static void tells() {
-        promise = "8";
+        sentence("8");
         ClaimBus bus = fixed(1, 1);
         bus.node(0, 3, 10, false, 1);
         no("none such", bus.tell(3));
@@ -437,7 +374,7 @@ public final class PromisesTest {
     }
 
     private static void loses() {
-        promise = "9";
+        sentence("9");
         ClaimBus bus = fixed(1, 1, 1);
         no("none such", bus.lose(3, 1));
         no("none such", bus.lose(-1, 1));
@@ -476,7 +413,7 @@ public final class PromisesTest {
     }
 
     private static void passes() {
-        promise = "10";
+        sentence("10");
         ClaimBus bus = new ClaimBus();
         due("0", bus.pass(0), -1);
         due("-1", bus.pass(-1), -1);
@@ -501,7 +438,7 @@ public final class PromisesTest {
     }
 
     private static void orderOnTheBus() {
-        promise = "10 (order)";
+        sentence("10 (order)");
         ClaimBus bus = new ClaimBus();
         bus.node(0, 0x00000200, 254 - 100, false, 1);
         bus.node(0, 0x00000201, 20, false, 1);
@@ -571,20 +508,8 @@ public final class PromisesTest {
         due("the last byte", bus.carried(3), 1);
     }
 
-    private static ClaimBus twins() {
-        ClaimBus bus = new ClaimBus();
-        bus.node(0, 1, 10, false, 1);
-        bus.node(0, 2, 10, false, 1);
-        bus.start(0);
-        bus.pass(300);
-        bus.lose(0, 1);
-        bus.start(1);
-        bus.pass(300);
-        return bus;
-    }
-
     private static void claimWaits() {
-        promise = "Terms: claims, waiting";
+        sentence("Terms: claims, waiting");
         ClaimBus bus = new ClaimBus();
         bus.node(0, 5, 130, true, 1);
         bus.node(0, 9, 130, true, 1);
@@ -647,7 +572,7 @@ public final class PromisesTest {
     }
 
     private static void claimFights() {
-        promise = "Terms: claims, fights";
+        sentence("Terms: claims, fights");
         ClaimBus bus = new ClaimBus();
         bus.node(0, -1, 50, true, 1);
         bus.node(1, 0, 50, true, 1);
@@ -720,7 +645,7 @@ public final class PromisesTest {
     }
 
     private static void freeAddresses() {
-        promise = "Terms: claims, free addresses";
+        sentence("Terms: claims, free addresses");
         due("behind 127", moved(127, 300), 128);
         due("behind 0", moved(0, 300), 128);
         due("behind 128", moved(128, 300), 129);
@@ -746,7 +671,7 @@ public final class PromisesTest {
     }
 
     private static void packetsToAll() {
-        promise = "Terms: packets to all";
+        sentence("Terms: packets to all");
         ClaimBus bus = fixed(1, 1);
         bus.send(0, 255, 65290, 15, 3);
         due("the control frame is put at once", bus.told(0, 2), 1);
@@ -797,7 +722,7 @@ public final class PromisesTest {
     }
 
     private static void collecting() {
-        promise = "Terms: collecting";
+        sentence("Terms: collecting");
         ClaimBus bus = fixed(1, 1, 1);
         bus.send(0, 255, TO_ALL_GROUP, 40, 1);
         bus.send(1, 255, TO_ALL_GROUP, 40, 2);
@@ -853,7 +778,7 @@ public final class PromisesTest {
     }
 
     private static void packetsToOne() {
-        promise = "Terms: packets to one";
+        sentence("Terms: packets to one");
         ClaimBus bus = fixed(5, 2, 1);
         bus.send(0, 20, 65536 * 2 + 61184, 25, 3);
         bus.pass(1);
@@ -906,7 +831,7 @@ public final class PromisesTest {
     }
 
     private static void waitingSender() {
-        promise = "Terms: the sender waits";
+        sentence("Terms: the sender waits");
         ClaimBus bus = fixed(4, 4);
         bus.send(0, 77, TO_ONE_GROUP, 20, 1);
         bus.pass(1249);
@@ -945,7 +870,7 @@ public final class PromisesTest {
     }
 
     private static void waitingReceiver() {
-        promise = "Terms: the receiver waits";
+        sentence("Terms: the receiver waits");
         ClaimBus bus = fixed(2, 2);
         bus.send(0, 20, TO_ONE_GROUP, 28, 1);
         bus.pass(2);
@@ -1019,7 +944,7 @@ public final class PromisesTest {
     }
 
     private static void threePlaces() {
-        promise = "Terms: three transports";
+        sentence("Terms: three transports");
         ClaimBus bus = new ClaimBus();
         for (int i = 0; i < 5; i++) {
             bus.node(0, i + 1, i == 4 ? 5 : 10 * (i + 1), false, 4);
@@ -1123,7 +1048,7 @@ public final class PromisesTest {
     }
 
     private static void endsOfTransports() {
-        promise = "Terms: 17, 19 and 255 of others";
+        sentence("Terms: 17, 19 and 255 of others");
         ClaimBus bus = fixed(4, 4, 4);
         bus.send(0, 20, TO_ONE_GROUP, 200, 1);
         bus.send(1, 10, TO_ONE_GROUP + 65536, 200, 1);
@@ -1165,7 +1090,7 @@ public final class PromisesTest {
     }
 
     private static void toldThings() {
-        promise = "11";
+        sentence("11");
         ClaimBus bus = fixed(4, 4);
         bus.node(0, 3, 20, false, 1);
         for (int what = 0; what < 7; what++) {
@@ -1255,7 +1180,7 @@ public final class PromisesTest {
     }
 
     private static void tables() {
-        promise = "12";
+        sentence("12");
         ClaimBus bus = new ClaimBus();
         bus.node(0, 1, 0, false, 1);
         bus.node(0, 2, 130, true, 1);
@@ -1324,7 +1249,7 @@ public final class PromisesTest {
     }
 
     private static void messages() {
-        promise = "13";
+        sentence("13");
         ClaimBus bus = fixed(4, 4, 4);
         bus.send(0, 20, TO_ONE_GROUP, 9, 7);
         bus.pass(20);
@@ -1354,7 +1279,7 @@ public final class PromisesTest {
     }
 
     private static void keptTroubles() {
-        promise = "14";
+        sentence("14");
         ClaimBus bus = fixed(4, 4, 4);
         due("none was told", bus.kept(1, 10, -1, 0), -1);
         bus.tell(0);
@@ -1399,7 +1324,7 @@ public final class PromisesTest {
 
     /** Messages of that group that were put by send(). */
     private static void keptOfOddMessages() {
-        promise = "14 (sent)";
+        sentence("14 (sent)");
         ClaimBus bus = fixed(4, 4);
         bus.send(0, 255, 65226, 8, 64);
         bus.pass(1);
@@ -1437,7 +1362,7 @@ public final class PromisesTest {
     }
 
     private static void carriedFrames() {
-        promise = "15";
+        sentence("15");
         ClaimBus bus = new ClaimBus();
         for (int what = -1; what < 5; what++) {
             due("none was", bus.carried(what), what == 3 ? -1 : 0);
@@ -1460,7 +1385,7 @@ public final class PromisesTest {
     }
 
     private static void soundness() {
-        promise = "16";
+        sentence("16");
         ClaimBus bus = fixed(4, 4, 4, 4);
         yes("sound", bus.sound());
         bus.send(0, 20, TO_ONE_GROUP, 100, 1);
@@ -1481,7 +1406,7 @@ public final class PromisesTest {
     }
 
     private static void counts() {
-        promise = "17";
+        sentence("17");
         ClaimBus bus = new ClaimBus();
         due("another number", bus.count(4), -1);
         due("another number", bus.count(-1), -1);
