@@ -32,10 +32,12 @@ public final class CallEdgesTest extends Checks {
         troublesOfEachState();
         tellsByEachState();
         tellsOfMany();
+        tellsEachBit();
         losesOfFrames();
         losesInPlace();
         losesOfThoseThatCome();
         passesOfTime();
+        passesInParts();
         toldNumbers();
         toldAddresses();
         toldFrames();
@@ -47,6 +49,7 @@ public final class CallEdgesTest extends Checks {
         carriedNumbers();
         soundOrDisturbed();
         countNumbers();
+        calls512();
         end("CallEdgesTest");
     }
 
@@ -242,6 +245,8 @@ public final class CallEdgesTest extends Checks {
         bus.stop(0);
         due("nothing waits", bus.told(0, 2), 0);
         due("gets nothing", bus.told(0, 5), 0);
+        due("messages that came stay", bus.told(0, 4), 1);
+        due("messages that came stay", bus.message(0, 0, 1), TROUBLE_GROUP);
         due("no table", bus.table(0, 20), -1);
         due("kept nothing", bus.kept(0, 20, -1, 0), -1);
         due("kept nothing", bus.kept(0, 20, 0, 0), -1);
@@ -655,6 +660,25 @@ public final class CallEdgesTest extends Checks {
         }
     }
 
+    private static void tellsEachBit() {
+        sentence("8: the lowest 8 of SPN, the next 8, the highest 3 and FMI (SPN's higher), OC");
+        for (int bit = 0; bit < 31; bit++) {
+            int spn = bit < 19 ? 1 << bit : 0;
+            int fmi = bit >= 19 && bit < 24 ? 1 << bit - 19 : 0;
+            int oc = bit >= 24 ? 1 << bit - 24 : 0;
+            ClaimBus bus = fixed(1, 1);
+            due("taken", bus.trouble(0, spn, fmi, oc), 1);
+            bus.tell(0);
+            bus.pass(1);
+            int third = spn >= 65536 ? spn >> 16 << 5 : fmi;
+            carried(bus, "bit " + bit, identifier(254, 202, 10), four(64, 255, spn & 255, spn >> 8 & 255),
+                four(third, oc, 255, 255), 0);
+            due("SPN", bus.kept(1, 10, 0, 0), spn);
+            due("FMI", bus.kept(1, 10, 0, 1), fmi);
+            due("OC", bus.kept(1, 10, 0, 2), oc);
+        }
+    }
+
     private static void losesOfFrames() {
         sentence("9: so many frames (0 .. 50); none such");
         ClaimBus bus = fixed(1, 1);
@@ -672,6 +696,7 @@ public final class CallEdgesTest extends Checks {
         due("49 lost", bus.told(1, 6), 49);
         bus.pass(1);
         due("50 lost", bus.told(1, 6), 50);
+        due("but carried", bus.count(2), 2 + 50);
         due("none came", bus.told(1, 4), 0);
         bus.pass(2);
         due("no more lost", bus.told(1, 6), 50);
@@ -755,6 +780,51 @@ public final class CallEdgesTest extends Checks {
         bus.pass(1);
         due("one frame a millisecond", bus.told(0, 2), 0);
         due("the bus does not keep what was not used", bus.count(2), 3);
+    }
+
+    private static void passesInParts() {
+        sentence("10: so many milliseconds go by, in one call or in many");
+        for (int nodes = 1; nodes < 4; nodes++) {
+            ClaimBus whole = atWork(nodes);
+            ClaimBus parts = atWork(nodes);
+            whole.pass(400);
+            for (int i = 0; i < 400; i++) {
+                parts.pass(1);
+            }
+            whole.pass(4600);
+            for (int i = 0; i < 46; i++) {
+                parts.pass(100);
+            }
+            for (int i = 0; i < nodes; i++) {
+                for (int what = 0; what < 7; what++) {
+                    due("told " + i + " " + what, whole.told(i, what), parts.told(i, what));
+                }
+            }
+            for (int what = 0; what < 4; what++) {
+                due("carried " + what, whole.carried(what), parts.carried(what));
+                due("count " + what, whole.count(what), parts.count(what));
+            }
+        }
+        ClaimBus bus = atWork(1);
+        bus.pass(5000);
+        due("its claim, 32 and five packets", bus.count(2), 7);
+    }
+
+    /** One node sends to all; a second one to none; a third one gets from one that is off. */
+    private static ClaimBus atWork(int nodes) {
+        int[] windows = new int[nodes];
+        java.util.Arrays.fill(windows, 4);
+        ClaimBus bus = fixed(windows);
+        bus.send(0, 255, TO_ALL_GROUP, 35, 1);
+        if (nodes > 1) {
+            bus.send(1, nodes > 2 ? 30 : 200, TO_ONE_GROUP, 100, 1);
+        }
+        if (nodes > 2) {
+            bus.pass(2);
+            bus.stop(1);
+            bus.pass(2);
+        }
+        return bus;
     }
 
     private static void toldNumbers() {
@@ -1009,5 +1079,24 @@ public final class CallEdgesTest extends Checks {
         bus.stop(0);
         due("one is off", bus.count(3), 1);
         due("four nodes still", bus.count(0), 4);
+    }
+
+    private static void calls512() {
+        sentence("an object is used for at most 512 calls");
+        ClaimBus bus = new ClaimBus();
+        bus.node(0, 1, 10, false, 1);
+        bus.node(0, 2, 20, false, 1);
+        bus.start(0);
+        bus.start(1);
+        bus.pass(300);
+        int sent = 0;
+        for (int call = 6; call <= 508; call++) {
+            sent += bus.send(0, 20, TO_ONE_GROUP, 8, call) ? 1 : 0;
+        }
+        due("all were sent", sent, 503);
+        due("call 509: all wait", bus.told(0, 2), 503);
+        due("call 510: all the time", bus.pass(503), 803);
+        due("call 511: all came", bus.told(1, 4), 503);
+        due("call 512: the last one", bus.carried(1), bytes(508, 0));
     }
 }

@@ -17,6 +17,7 @@ public final class PacketEdgesTest extends Checks {
         waitsFor17();
         waitsBehindPackets();
         waitsFor19();
+        whatWasPutStays();
         failsBy255();
         receiverWaits();
         packetsAtTheLastMoment();
@@ -35,6 +36,7 @@ public final class PacketEdgesTest extends Checks {
         packetsAtTheLastMomentToAll();
         dropsWhatIsGot();
         heardBySourceAndGroup();
+        toAllHearsNone();
         toAllAndToOneApart();
         lastOfEachSource();
         firstByte64();
@@ -130,6 +132,7 @@ public final class PacketEdgesTest extends Checks {
             due("the last packet", bus.carried(1) & 255, one[1]);
             due("DONE", bus.told(0, 3), 2);
             due("came", bus.message(1, 1, 3), sum(one[0], 3));
+            yes("as they were sent", bus.sound());
         }
     }
 
@@ -354,6 +357,28 @@ public final class PacketEdgesTest extends Checks {
         }
     }
 
+    private static void whatWasPutStays() {
+        sentence("Terms: FAILED (what was put before waits on: only a lost address or stop() drops it)");
+        ClaimBus bus = crowd();
+        bus.send(0, 20, TO_ONE_GROUP, 200, 1);
+        bus.pass(2);
+        due("sixteen packets were put", bus.told(0, 2), 16);
+        crowdIsBusy(bus, 1250);
+        due("FAILED", bus.told(0, 3), 3);
+        due("the packets and 255", bus.told(0, 2), 17);
+        yes("the next one", bus.send(0, 20, TO_ONE_GROUP, 9, 7));
+        due("behind them", bus.told(0, 2), 18);
+        for (int packet = 1; packet <= 16; packet++) {
+            bus.pass(1);
+            due("a packet", bus.carried(1) & 255, packet);
+        }
+        bus.pass(40);
+        due("the next one has come", bus.message(1, 0, 3), sum(9, 7));
+        due("it alone", bus.told(1, 4), 1);
+        due("DONE", bus.told(0, 3), 2);
+        yes("none was mixed", bus.sound());
+    }
+
     private static void failsBy255() {
         sentence("Terms: 255, why, 255, 255, 255: FAILED");
         ClaimBus bus = fixed(4, 4, 4, 4, 4);
@@ -537,6 +562,25 @@ public final class PacketEdgesTest extends Checks {
         bus.pass(30);
         due("the new bytes alone", bus.message(1, 0, 3), sum(100, 7));
         due("one message", bus.told(1, 4), 1);
+        waitsOfOneThatBeganAnew();
+    }
+
+    private static void waitsOfOneThatBeganAnew() {
+        ClaimBus bus = fixed(4, 4);
+        bus.send(0, 20, TO_ONE_GROUP, 100, 1);
+        bus.pass(1);
+        bus.stop(0);
+        bus.pass(2501);
+        due("17 twice again", bus.count(2), 2 + 2 + 2);
+        bus.start(0);
+        bus.pass(251);
+        bus.send(0, 20, TO_ONE_GROUP, 100, 1);
+        bus.pass(1);
+        bus.stop(0);
+        for (int time = 0; time < 3; time++) {
+            bus.pass(1250);
+            due("the third time of the new one", bus.carried(1) & 255, time < 2 ? 17 : 255);
+        }
     }
 
     /** Both are due in one millisecond; the receiver of the 16 is none, the sender of the other is off. */
@@ -803,6 +847,27 @@ public final class PacketEdgesTest extends Checks {
             due("255 of the old one", bus.carried(1), four(255, 3, 255, 255));
             due("FAILED, if source and group are those", bus.told(0, 3), turn == 0 ? 3 : 1);
         }
+    }
+
+    /** One that sends to all does not hear what its old receiver tells it of that group. */
+    private static void toAllHearsNone() {
+        ClaimBus bus = fixed(4, 4);
+        bus.send(0, 20, TO_ONE_GROUP, 100, 1);
+        bus.pass(1);
+        bus.stop(0);
+        bus.start(0);
+        bus.pass(301);
+        bus.send(0, 255, TO_ONE_GROUP, 1785, 1);
+        bus.pass(949);
+        due("17", bus.carried(1), four(17, 4, 1, 255));
+        due("nothing was put for it", bus.told(0, 2), 0);
+        bus.pass(2500);
+        due("255", bus.carried(1), four(255, 3, 255, 255));
+        due("collects, gets no more", bus.told(1, 5), 1);
+        due("under way", bus.told(0, 3), 1);
+        pass(bus, 9300);
+        due("DONE", bus.told(0, 3), 2);
+        due("come", bus.message(1, 0, 3), sum(1785, 1));
     }
 
     /** Nodes 0 and 1 have one address; one sends to all, the other one to node 2. */
