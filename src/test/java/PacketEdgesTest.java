@@ -865,7 +865,7 @@ public final class PacketEdgesTest extends Checks {
         due("255", bus.carried(1), four(255, 3, 255, 255));
         due("collects, gets no more", bus.told(1, 5), 1);
         due("under way", bus.told(0, 3), 1);
-        pass(bus, 9300);
+        pass(bus, 9301);
         due("DONE", bus.told(0, 3), 2);
         due("come", bus.message(1, 0, 3), sum(1785, 1));
     }
