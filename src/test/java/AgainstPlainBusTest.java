@@ -1,15 +1,18 @@
 import java.util.Random;
 
-/** Random runs of at most 512 calls, each answer compared with that of the plain second reading. */
+/** Random runs of at most 512 calls, looks too, each answer compared with that of the plain second reading. */
 public final class AgainstPlainBusTest {
-    private static final int RUNS = 400;
-    private static final int CALLS = 500;
+    private static final int RUNS = 1500;
+    private static final int MOST_CALLS = 512;
+    /** What looking at all takes, when the run ends. */
+    private static final int LAST_LOOKS = 170;
 
     private final Random random;
     private final ClaimBus bus = new ClaimBus();
     private final PlainBus plain = new PlainBus();
     private final StringBuilder calls = new StringBuilder();
     private final int style;
+    private int made = 0;
     private int wrong = 0;
 
     private AgainstPlainBusTest(int seed) {
@@ -61,9 +64,14 @@ public final class AgainstPlainBusTest {
             }
         }
         passSome(style == 3 ? 20 : 300);
-        for (int k = 0; k < CALLS - 40 && wrong == 0; k++) {
+        while (made < MOST_CALLS - LAST_LOOKS && wrong == 0) {
             oneCall();
-            compareAll();
+            lookAtSome(any(4));
+        }
+        lookAtAll();
+        if (made > MOST_CALLS) {
+            wrong++;
+            calls.append("\n  ").append(made).append(" calls");
         }
     }
 
@@ -72,6 +80,7 @@ public final class AgainstPlainBusTest {
     }
 
     private void call(String what, int got, int due) {
+        made++;
         calls.append("\n  ").append(what);
         if (got != due) {
             wrong++;
@@ -131,32 +140,74 @@ public final class AgainstPlainBusTest {
             number(bus.send(n, to, group, size, seed)), number(plain.send(n, to, group, size, seed)));
     }
 
-    private void compareAll() {
-        for (int i = -1; i < 9; i++) {
-            for (int what = -1; what < 8; what++) {
-                look("told", bus.told(i, what), plain.told(i, what), i, what);
+    private void lookAtSome(int many) {
+        for (int k = 0; k < many; k++) {
+            int node = any(30) == 0 ? oneOf(-1, 8, 9) : any(plain.nodes.size());
+            int kind = any(20);
+            if (kind < 11) {
+                lookAtTold(node, any(40) == 0 ? oneOf(-1, 7) : any(7));
+            } else if (kind < 17) {
+                lookAtNode(node, kind - 11);
+            } else {
+                lookAtBus(kind - 17, any(6) - 1);
             }
-            int address = any(3) == 0 ? any(256) : oneOf(-1, 0, 10, 20, 128, 129, 130, 131, 246, 247, 254);
+        }
+    }
+
+    private void lookAtAll() {
+        for (int i = 0; i < plain.nodes.size(); i++) {
+            for (int what = 0; what < 7; what++) {
+                lookAtTold(i, what);
+            }
+            for (int kind = 0; kind < 6; kind++) {
+                lookAtNode(i, kind);
+                lookAtNode(i, kind);
+            }
+        }
+        for (int what = 0; what < 4; what++) {
+            lookAtBus(0, what);
+            lookAtBus(1, what);
+        }
+        lookAtBus(2, 0);
+    }
+
+    private void lookAtTold(int i, int what) {
+        look("told", bus.told(i, what), plain.told(i, what), i, what);
+    }
+
+    private void lookAtNode(int i, int kind) {
+        int address = any(4) == 0 ? any(256) : oneOf(-1, 0, 10, 20, 128, 129, 130, 131, 246, 247, 254);
+        int what = any(6) - 1;
+        int k = any(22) - 1;
+        if (kind < 2) {
             look("table", bus.table(i, address), plain.table(i, address), i, address);
-            int k = any(22) - 1;
-            int what = any(6) - 1;
+        } else if (kind == 2) {
             look("message", bus.message(i, k, what), plain.message(i, k, what), i, k, what);
-            int came = plain.told(i, 4) - 1;
-            look("message", bus.message(i, came, 3), plain.message(i, came, 3), i, came, 3);
-            int source = any(4) == 0 ? any(256) : oneOf(-1, 0, 10, 20, 128, 129, 130, 246, 247);
+        } else if (kind == 3) {
+            int last = Math.min(plain.told(i, 4), 20) - 1;
+            look("message", bus.message(i, last, 3), plain.message(i, last, 3), i, last, 3);
+        } else if (kind == 4) {
+            look("kept", bus.kept(i, address, -1, what), plain.kept(i, address, -1, what), i, address, -1, what);
+        } else {
             int trouble = any(13) - 2;
-            look("kept", bus.kept(i, source, trouble, what), plain.kept(i, source, trouble, what), i, source, trouble, what);
-            look("kept", bus.kept(i, source, -1, what), plain.kept(i, source, -1, what), i, source, -1, what);
+            look("kept", bus.kept(i, address, trouble, what), plain.kept(i, address, trouble, what), i, address, trouble, what);
         }
-        for (int what = -1; what < 5; what++) {
+    }
+
+    private void lookAtBus(int kind, int what) {
+        if (kind == 0) {
             look("carried", bus.carried(what), plain.carried(what), what);
+        } else if (kind == 1) {
             look("count", bus.count(what), plain.count(what), what);
+        } else {
+            look("sound", number(bus.sound()), number(plain.sound()));
         }
-        look("sound", number(bus.sound()), number(plain.sound()));
     }
 
     private void look(String what, int got, int due, int... at) {
+        made++;
         if (got != due) {
+            made--;
             call(what + " " + java.util.Arrays.toString(at), got, due);
         }
     }

@@ -727,6 +727,8 @@ public final class CallEdgesTest extends Checks {
         bus.lose(1, 2);
         bus.pass(5);
         due("two, then two in place of the third", bus.told(1, 6), 4);
+        bus.stop(1);
+        due("stop() does not take the count back", bus.told(1, 6), 4);
     }
 
     private static void losesOfThoseThatCome() {
@@ -1026,6 +1028,30 @@ public final class CallEdgesTest extends Checks {
         }
         due("its own", bus.kept(0, 0, -1, 0), -1);
         due("another's", bus.kept(0, 247, -1, 0), 1);
+        keptOfAnAddress();
+    }
+
+    private static void keptOfAnAddress() {
+        ClaimBus bus = new ClaimBus();
+        bus.node(0, 9, 130, true, 1);
+        bus.node(0, 1, 50, false, 1);
+        bus.node(0, 2, 130, false, 1);
+        bus.start(0);
+        bus.start(1);
+        bus.pass(300);
+        bus.trouble(0, 5, 5, 5);
+        bus.tell(0);
+        bus.pass(1);
+        bus.start(2);
+        bus.pass(300);
+        due("moved", bus.told(0, 1), 131);
+        due("of the address that it had", bus.kept(1, 130, 0, 0), 5);
+        due("not of the new one yet", bus.kept(1, 131, -1, 0), -1);
+        bus.tell(0);
+        bus.tell(2);
+        bus.pass(2);
+        due("of the new one", bus.kept(1, 131, 0, 0), 5);
+        due("of the one that has the old one", bus.kept(1, 130, -1, 0), 0);
     }
 
     private static void carriedNumbers() {

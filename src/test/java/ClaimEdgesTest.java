@@ -17,6 +17,7 @@ public final class ClaimEdgesTest extends Checks {
         lesserNames();
         lesserNamesOfWhoHasIt();
         putsAgain();
+        waitsAnewBehindARival();
         dropsAll();
         behindAndRound();
         pastThoseOfTheTable();
@@ -271,6 +272,33 @@ public final class ClaimEdgesTest extends Checks {
         due("but the new one", bus.table(0, 128), 1);
         bus.pass(800);
         due("sent", bus.told(0, 3), 2);
+    }
+
+    /** A greater name claims the address so many milliseconds behind the claim of the one that keeps it. */
+    private static void waitsAnewBehindARival() {
+        sentence("Terms: 250 behind the millisecond in which its last claim was carried");
+        for (int behind : new int[] {0, 1, 100, 247, 248, 249, 250}) {
+            ClaimBus bus = new ClaimBus();
+            bus.node(0, 5, 130, false, 1);
+            bus.node(0, 9, 130, true, 1);
+            bus.start(0);
+            bus.pass(1);
+            for (int i = 1; i <= behind; i++) {
+                bus.pass(1);
+            }
+            bus.start(1);
+            bus.pass(2);
+            due("the rival goes elsewhere", bus.told(1, 1), 131);
+            due("its claim again", bus.carried(0), claim(130));
+            int from = behind < 248 ? behind + 3 : 1;
+            due("when it was carried", bus.count(1), behind + 3);
+            if (from + 249 > bus.count(1)) {
+                bus.pass(from + 249 - bus.count(1));
+                due(behind + " behind: 249 behind the last claim", bus.told(0, 0), 1);
+                bus.pass(1);
+            }
+            due(behind + " behind: 250 behind the last claim", bus.told(0, 0), 2);
+        }
     }
 
     private static void dropsAll() {

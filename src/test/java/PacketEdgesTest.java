@@ -479,6 +479,32 @@ public final class PacketEdgesTest extends Checks {
         bus.pass(5000);
         due("no fourth", bus.count(2), 7);
         due("nothing came", bus.told(1, 4), 0);
+        thirdTimeOfOneThatGoesOn();
+    }
+
+    /** Each second packet is lost; the 17s come just before the sender gives up. */
+    private static void thirdTimeOfOneThatGoesOn() {
+        ClaimBus bus = fixed(1, 1);
+        bus.send(0, 20, TO_ONE_GROUP, 50, 1);
+        bus.pass(2);
+        for (int time = 0; time < 3; time++) {
+            due("17 from the next one on", bus.carried(1), four(17, 1, 1 + time, 255));
+            bus.lose(1, 1);
+            bus.pass(1);
+            due("the packet is lost", bus.told(1, 6), time + 1);
+            bus.pass(1247);
+            due("waits", bus.carried(1) & 255, 1 + time);
+            due("under way", bus.told(0, 3), 1);
+            if (time < 2) {
+                bus.pass(2);
+                due("taken, the second time it was put", bus.carried(1) & 255, 1 + time);
+                bus.pass(1);
+            }
+        }
+        bus.pass(1);
+        due("the third time of all", bus.carried(1), four(255, 3, 255, 255));
+        due("dropped", bus.told(1, 5), 0);
+        due("FAILED", bus.told(0, 3), 3);
     }
 
     /** Node 4 (address 50) gets from 0, 1, 2, which are off then: three transports, with all places in use. */
@@ -671,6 +697,30 @@ public final class PacketEdgesTest extends Checks {
         due("the first place", bus.carried(0), identifier(236, 10, 5));
         bus.pass(1);
         due("the second place", bus.carried(0), identifier(236, 20, 5));
+        anewThoughAnotherPlaceIsFree();
+    }
+
+    /** 0 ends; 1 begins anew in the second place, and 2 comes in the first one. */
+    private static void anewThoughAnotherPlaceIsFree() {
+        ClaimBus bus = places();
+        bus.start(1);
+        bus.pass(300);
+        due("the first one has come", bus.told(3, 4), 1);
+        bus.send(1, 5, TO_ONE_GROUP, 100, 1);
+        bus.pass(1);
+        due("16", bus.carried(0), identifier(236, 5, 20));
+        bus.stop(1);
+        bus.pass(1249);
+        bus.send(2, 5, TO_ONE_GROUP, 100, 1);
+        bus.pass(1);
+        due("16", bus.carried(0), identifier(236, 5, 30));
+        bus.stop(2);
+        bus.pass(1249);
+        due("nothing waits", bus.told(3, 2), 0);
+        bus.pass(1);
+        due("the first place", bus.carried(0), identifier(236, 30, 5));
+        bus.pass(1);
+        due("the second place", bus.carried(0), identifier(236, 20, 5));
     }
 
     private static void eachSourceApart() {
@@ -691,6 +741,16 @@ public final class PacketEdgesTest extends Checks {
             due("its bytes", bus.message(7, i, 3), sum(9 + 7 * i, 3 * i));
         }
         due("none is left", bus.told(7, 5), 0);
+        bus = crowd();
+        for (int i = 1; i < 7; i++) {
+            bus.send(i, 255, TO_ALL_GROUP, 9, i);
+        }
+        bus.pass(6);
+        bus.send(0, 80, TO_ONE_GROUP, 9, 1);
+        bus.pass(1);
+        due("six collected are none of the three that it gets at most", bus.told(7, 5), 7);
+        bus.pass(4);
+        due("come", bus.message(7, 0, 0), 10);
     }
 
     private static void notTheExpectedOne() {
@@ -814,6 +874,22 @@ public final class PacketEdgesTest extends Checks {
         bus.pass(3);
         due("it speaks to the other alone", bus.carried(0), identifier(236, 20, 30));
         due("no more of the first", bus.told(2, 2), 0);
+        staysWhatIsCollected();
+    }
+
+    /** Node 4 has no place for what node 3 sends; 3 collects what 4 sends to all in that group. */
+    private static void staysWhatIsCollected() {
+        ClaimBus bus = threeInUse();
+        bus.send(4, 255, TO_ONE_GROUP, 40, 1);
+        bus.pass(1);
+        due("collects", bus.told(3, 5), 1);
+        bus.send(3, 50, TO_ONE_GROUP, 9, 1);
+        bus.pass(2);
+        carried(bus, "255", identifier(236, 40, 50), four(255, 2, 255, 255), four(255, 0, 239, 0), 4);
+        due("FAILED", bus.told(3, 3), 3);
+        due("what is collected is not what is got", bus.told(3, 5), 1);
+        bus.pass(300);
+        due("it comes", bus.message(3, 0, 3), sum(40, 1));
     }
 
     private static void heardBySourceAndGroup() {
