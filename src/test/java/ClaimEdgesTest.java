@@ -351,6 +351,8 @@ public final class ClaimEdgesTest extends Checks {
         bus.pass(1);
         int to = bus.told(0, 1);
         due("claiming", bus.told(0, 0), 1);
+        due("the claim that came is in its table", bus.table(0, address), 1);
+        due("what it claims is not", bus.table(0, to), -1);
         bus.pass(1);
         due("its claim is to that address", bus.carried(0), claim(to));
         bus.pass(300);

@@ -4,6 +4,7 @@ public final class PacketEdgesTest extends Checks {
     }
 
     public static void main(String[] args) {
+        toWhom();
         upToEightBytes();
         bytesBehindTheEnd();
         numbersOfPackets();
@@ -54,6 +55,27 @@ public final class PacketEdgesTest extends Checks {
         busy(bus, 7, 8, milliseconds);
         bus.pass(milliseconds);
         due("the bus was busy all the time", bus.told(7, 2), 0);
+    }
+
+    private static void toWhom() {
+        sentence("Terms: of format 0 .. 239 SPECIFIC is to whom, and the group is page, format, 0; of others it is to all");
+        for (int page = 0; page < 4; page++) {
+            for (int format : new int[] {0, 1, 239, 240, 241, 255}) {
+                for (int specific : new int[] {10, 20, 30, 40, 255}) {
+                    ClaimBus bus = fixed(1, 1, 1);
+                    boolean toOne = format < 240;
+                    int group = page << 16 | format << 8 | (toOne ? 0 : specific);
+                    yes("send", bus.send(0, toOne ? specific : 255, group, 8, 1));
+                    bus.pass(1);
+                    due("specific", bus.carried(0), 7 << 26 | page << 24 | format << 16 | specific << 8 | 10);
+                    for (int i = 0; i < 3; i++) {
+                        boolean hears = i > 0 && (!toOne || specific == 255 || specific == 10 * (i + 1));
+                        due(i + " hears " + group + " to " + specific, bus.told(i, 4), hears ? 1 : 0);
+                        due("its group", bus.message(i, 0, 1), hears ? group : -1);
+                    }
+                }
+            }
+        }
     }
 
     private static void upToEightBytes() {
