@@ -18,6 +18,7 @@ public final class CrowdedTest {
     private static final int MOST_TOLD = 5;
     private static final int MOST_OBJECTS = 600000;
     private static final int MOST_ELEMENTS = 7300000;
+    private static final long BYTES_OF_ALL = 16L * MOST_OBJECTS + 8L * MOST_ELEMENTS;
     private static final ThreadMXBean THREADS = (ThreadMXBean) ManagementFactory.getThreadMXBean();
     private static final int GROUP = 256;
     private static final int HIGHEST_GROUP = 262143;
@@ -263,7 +264,7 @@ public final class CrowdedTest {
         }
     }
 
-    /** What a run made: what is kept, if nothing that pass() made was forgotten, as its bytes tell. */
+    /** What a run made: what is kept, and what pass() made and forgot, as its bytes tell. */
     private void seesRoom(String what, int waited) {
         Set<Object> seen = Collections.newSetFromMap(new IdentityHashMap<>());
         ArrayDeque<Object> open = new ArrayDeque<>();
@@ -280,8 +281,7 @@ public final class CrowdedTest {
         }
         System.out.println(what + ": " + waited + " frames waited; " + seen.size() + " objects, " + elements
             + " elements; pass() made " + madeByPass + " bytes");
-        long bytesOfKept = 24L * seen.size() + 8L * elements;
-        if (seen.size() > MOST_OBJECTS || elements > MOST_ELEMENTS || madeByPass > bytesOfKept) {
+        if (seen.size() > MOST_OBJECTS || elements > MOST_ELEMENTS || madeByPass > BYTES_OF_ALL) {
             wrong++;
             System.out.println(what + ": too many are made");
         }

@@ -28,13 +28,17 @@ public final class SoundTest extends Checks {
     }
 
     private static boolean holdsLostFramesInNodes() {
-        boolean holds = false;
+        boolean hasNodes = false;
+        for (Field field : ClaimBus.class.getDeclaredFields()) {
+            hasNodes |= field.getName().equals("nodes") && Object[].class.isAssignableFrom(field.getType());
+        }
+        boolean hasLost = false;
         for (Class<?> inside : ClaimBus.class.getDeclaredClasses()) {
             for (Field field : inside.getDeclaredFields()) {
-                holds |= inside.getSimpleName().equals("Node") && field.getName().equals("lost");
+                hasLost |= inside.getSimpleName().equals("Node") && field.getName().equals("lost");
             }
         }
-        return holds;
+        return hasNodes && hasLost;
     }
 
     /** As if no frame had been lost. */
